@@ -1,5 +1,3 @@
-import java.util.ArrayList;
-
 /** Sampler zones with round robins, layers of force and notes that choke each other; ../shared/DOC.md says what each call does. */
 public final class ZoneSampler {
     /** An argument is out of its range, or there is no such zone or voice. */
@@ -776,37 +774,49 @@ public final class ZoneSampler {
         }
     }
 
-    /** The states before the latest changes; the first `kept` of the list, the oldest one ahead. */
+    /** The states before the latest changes, the oldest one first; only the first `kept` ones count. */
     private static final class History {
-        private final ArrayList<State> states = new ArrayList<>();
+        private State first = new State();
+        private State second = new State();
+        private State third = new State();
+        private State fourth = new State();
         private int kept;
-
-        History() {
-            for (int i = 0; i < MOST_STATES; i++) {
-                states.add(new State());
-            }
-        }
 
         int size() {
             return kept;
         }
 
         void record(State state) {
-            if (kept >= states.size() && kept > 0) {
+            if (kept >= MOST_STATES) {
                 // The oldest state is dropped, and its rows are used again for the newest one.
-                states.add(states.remove(0));
+                State oldest = first;
+                first = second;
+                second = third;
+                third = fourth;
+                fourth = oldest;
                 kept--;
             }
-            if (kept < states.size()) {
-                states.get(kept).copyFrom(state);
-                kept++;
-            }
+            stateAt(kept).copyFrom(state);
+            kept++;
         }
 
         void goBack(State state) {
-            if (kept > 0 && kept <= states.size()) {
+            if (kept > 0) {
                 kept--;
-                state.copyFrom(states.get(kept));
+                state.copyFrom(stateAt(kept));
+            }
+        }
+
+        private State stateAt(int place) {
+            switch (place) {
+                case 0:
+                    return first;
+                case 1:
+                    return second;
+                case 2:
+                    return third;
+                default:
+                    return fourth;
             }
         }
     }

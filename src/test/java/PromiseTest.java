@@ -199,6 +199,12 @@ final class PromiseTest {
         voiceIs(1, 0, 0);
         voiceIs(2, 0, 1);
         counted(BEGAN, 3);
+        x.letGo(9);
+        x.pass(60);
+        x.hit(9, 6);
+        voiceIs(0, 4, 0);
+        voiceIs(1, 4, 0);
+        voiceIs(1, 5, 0);
         due("key -1", x.hit(-1, 5), BAD);
         due("key 36", x.hit(36, 5), BAD);
         due("force 0", x.hit(5, 0), BAD);
@@ -208,7 +214,7 @@ final class PromiseTest {
             due("force far", x.hit(5, far), BAD);
         }
         unchanged(4);
-        counted(BEGAN, 3);
+        counted(BEGAN, 5);
     }
 
     private void hitAgain() {
@@ -446,6 +452,13 @@ final class PromiseTest {
         counted(ENDED, 0);
         counted(PEDAL, 1);
         counted(ZONES, 2);
+        x.hit(0, 9);
+        x.pass(4);
+        x.letGo(0);
+        x.silence();
+        x.hit(0, 9);
+        voiceIs(0, 4, 0);
+        voiceIs(1, 5, 0);
     }
 
     private void promise10() {
@@ -540,6 +553,19 @@ final class PromiseTest {
         faultIs(0, "9-4", 2);
         faultIs(0, "9-0", 2);
         faultIs(0, "9-36", 3);
+        faultIs(0, "4", 1);
+        faultIs(0, "4-", 2);
+        faultIs(0, "4-5", 3);
+        faultIs(0, "4-5,", 4);
+        faultIs(0, "4-5,5", 5);
+        faultIs(0, "4-5,5-", 6);
+        faultIs(0, "4-5,5-5", 7);
+        faultIs(0, "19-1,", 4);
+        faultIs(0, "19-19,1-1,1", NONE);
+        faultIs(0, "20-1", 3);
+        faultIs(0, "29-2,", 4);
+        faultIs(0, "29-29,1-1,1", NONE);
+        faultIs(0, "30-2", 3);
         faultIs(0, "25-2,", 4);
         faultIs(0, "25-1", 3);
         faultIs(0, "25-24", 4);
@@ -665,6 +691,14 @@ final class PromiseTest {
         pad("p");
         due("no voice begins", x.play(), 0);
         counted(PEDAL, 1);
+        pad("n7.2;n35.3;o7");
+        due("play", x.play(), 4);
+        voiceIs(0, 1, 7);
+        voiceIs(0, 2, 2);
+        voiceIs(0, 5, 1);
+        voiceIs(2, 1, 35);
+        voiceIs(2, 2, 3);
+        voiceIs(2, 5, 0);
     }
 
     private void promise16() {
@@ -886,6 +920,22 @@ final class PromiseTest {
         unchanged(4);
     }
 
+    private void firstQuestion() {
+        promise("22 ifHit, as the first question");
+        full(3);
+        x.like(2, 1, 0, 60);
+        x.hit(5, 5);
+        int[] due = {3, 1, 0, 0, 5};
+        for (int what = 4; what >= 0; what--) {
+            due("what " + what, x.ifHit(6, 6, what), due[what]);
+        }
+        ZoneSampler other = new ZoneSampler();
+        other.zone(0, 35, 1, 9);
+        other.like(0, 3, 0, 60);
+        other.hit(1, 1);
+        due("choked", other.ifHit(1, 1, 1), 1);
+    }
+
     private void promise23() {
         promise("23 silentIn");
         due("silent", x.silentIn(), 0);
@@ -1103,6 +1153,7 @@ final class PromiseTest {
         promise20();
         promise21();
         promise22();
+        firstQuestion();
         promise23();
         promise24();
         promise25();
