@@ -491,9 +491,9 @@ public final class ZoneSampler {
         private int notes;
 
         State() {
-            numbers[SETTING + VOICES] = 6;
-            numbers[SETTING + STEAL] = 0;
-            numbers[SETTING + FADE] = 10;
+            putNumber(SETTING + VOICES, 6);
+            putNumber(SETTING + STEAL, 0);
+            putNumber(SETTING + FADE, 10);
         }
 
         void copyFrom(State other) {

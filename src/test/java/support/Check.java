@@ -16,6 +16,10 @@ final class Check {
         tell(got == due, what, got, due);
     }
 
+    void same(String what, String got, String due) {
+        tell(got.equals(due), what, got, due);
+    }
+
     void yes(String what, boolean got) {
         tell(got, what, got, true);
     }
