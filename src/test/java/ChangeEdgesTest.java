@@ -248,7 +248,7 @@ final class ChangeEdgesTest extends Edges {
         x.hit(1, 8);
         x.save();
         String saved = heart(x);
-        for (int i = 0; i < 6; i++) {
+        for (int i = 0; i < 4; i++) {
             x.pass(10);
             x.hit(i, 3);
             x.like(0, 1, 1, 20);

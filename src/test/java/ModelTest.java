@@ -2,10 +2,11 @@ import java.util.Arrays;
 
 /** Long runs of calls on ZoneSampler and on the Model, with the same answers due; no call may throw. */
 final class ModelTest {
-    private static final int RUNS = 1500;
+    private static final int RUNS = 2000;
     private static final int CALLS = 512;
 
     private long seed;
+    private int calls;
     private final Check check;
 
     private ModelTest(long seed, Check check) {
@@ -115,6 +116,7 @@ final class ModelTest {
     }
 
     private boolean same(ZoneSampler x, Model m, String name, int[] args) {
+        calls++;
         double due = m.call(name, args);
         double got;
         try {
@@ -161,7 +163,6 @@ final class ModelTest {
         Model m = new Model();
         int span = any(3) == 0 ? 35 : from(2, 12);
         boolean good = true;
-        int calls = 0;
         while (good && calls < CALLS) {
             if (calls + 120 < CALLS && any(12) == 0) {
                 good = same(x, m, "clear", new int[0]);
@@ -171,13 +172,11 @@ final class ModelTest {
                 }
                 good = good && same(x, m, "fault", new int[] {0}) && same(x, m, "fault", new int[] {1});
                 good = good && same(x, m, any(2) == 0 ? "load" : "play", new int[0]);
-                calls += text.length() + 4;
             } else {
                 String name = calls < 12 && any(2) == 0 ? (any(2) == 0 ? "zone" : "like") : nextCall();
                 good = same(x, m, name, arguments(name, m, span));
-                calls++;
             }
-            if (any(40) == 0) {
+            if (calls + 200 < CALLS && any(40) == 0) {
                 good = good && sameEverywhere(x, m);
             }
         }

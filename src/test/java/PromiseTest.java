@@ -43,6 +43,7 @@ final class PromiseTest {
     }
 
     private void faultIs(int way, String text, int due) {
+        x = new ZoneSampler();
         pad(text);
         due("fault(" + way + ") of " + text, x.fault(way), due);
     }

@@ -3,6 +3,7 @@ final class TextEdgesTest extends Edges {
     private static final int AS_ZONES = 0, AS_SCORE = 1;
 
     private void faultIs(int way, String text, int due) {
+        anew();
         pad(text);
         counted(PAD, text.length());
         due("fault(" + way + ") of '" + text + "'", x.fault(way), due);
@@ -238,7 +239,6 @@ final class TextEdgesTest extends Edges {
         wrongAtLast(AS_ZONES, "0-0,1-1,0");
         wrongAtLast(AS_ZONES, "0-0,1-1,1g0");
         wrongAtLast(AS_ZONES, "0-0,1-1,1r0");
-        anew();
         wrongAtLast(AS_SCORE, "n00");
         wrongAtLast(AS_SCORE, "n09");
         wrongAtLast(AS_SCORE, "n0.0");
@@ -255,7 +255,6 @@ final class TextEdgesTest extends Edges {
         open(AS_ZONES, times("0-0,1-1,1;", 4) + "35-35,1-1,60g1r1;35-");
         wrongAtLast(AS_ZONES, times("0-0,1-1,1;", 5) + "0-x");
         faultIs(AS_ZONES, times("0-0,1-1,1;", 5) + "0-0,1-1,1x", 59);
-        anew();
         right(AS_SCORE, times("p;", 28) + "p;t9");
         right(AS_SCORE, times("p;", 29) + "o0");
         open(AS_SCORE, times("p;", 30));
@@ -307,6 +306,23 @@ final class TextEdgesTest extends Edges {
     private static void padded(ZoneSampler s, int zones, String text) {
         wide(s, zones);
         write(s, text);
+    }
+
+    private void takenFromSixty() {
+        sentence("load and play: of a pad of 60 characters, and the pad is empty then");
+        pad(times("0-0,1-1,1;", 5) + "7-9,3-5,60");
+        counted(PAD, 60);
+        due("load", x.load(), 6);
+        counted(PAD, 0);
+        due("the last character counts", x.zoneOf(5, 6), 60);
+        due("append", x.append('p'), 1);
+        pad(times("p;", 28) + "n8.4");
+        counted(PAD, 60);
+        due("play", x.play(), 1);
+        counted(PAD, 0);
+        voicesAre(2, 4);
+        counted(PEDAL, 0);
+        due("append", x.append('p'), 1);
     }
 
     private void refusedTexts() {
@@ -405,6 +421,7 @@ final class TextEdgesTest extends Edges {
         sixtyCharacters();
         loads();
         loadsUpToTen();
+        takenFromSixty();
         refusedTexts();
         plays();
         playsInOrder();

@@ -124,6 +124,34 @@ final class VoiceEdgesTest extends Edges {
         voicesAre(5, 2);
     }
 
+    private void heldAfterOthers() {
+        sentence("It is held (as long as the key is down): also one that begins where another one was let go or hung");
+        for (int pedal = 0; pedal <= 1; pedal++) {
+            anew();
+            wideZones(1);
+            if (pedal == 1) {
+                x.pedal();
+            }
+            x.hit(0, 9);
+            x.pass(3);
+            x.letGo(0);
+            x.silence();
+            x.hit(1, 2);
+            voicesAre(5, 0);
+            voicesAre(4, 0);
+            voicesAre(3, 20);
+            x.letGo(1);
+            x.pass(20);
+            counted(SOUNDING, 0);
+            x.hit(1, 9);
+            voicesAre(5, 0);
+            x.letGo(1);
+            x.set(VOICES, 1);
+            x.hit(2, 9);
+            voicesAre(5, 0);
+        }
+    }
+
     private void hitAgain() {
         sentence("A key that is hit again while its voices are held: those are let go first (also with the pedal down).");
         for (int pedal = 0; pedal <= 1; pedal++) {
@@ -485,6 +513,7 @@ final class VoiceEdgesTest extends Edges {
         byTheNumbersOfTheZones();
         inTheOrderInWhichTheyBegan();
         held();
+        heldAfterOthers();
         hitAgain();
         hitAgainTooSoft();
         hitAgainHung();
