@@ -499,7 +499,7 @@ public final class ZoneSampler {
         void copyFrom(State other) {
             zones.copyFrom(other.zones);
             voices.copyFrom(other.voices);
-            System.arraycopy(other.numbers, 0, numbers, 0, NUMBERS);
+            System.arraycopy(other.numbers, 0, numbers, 0, Math.min(numbers.length, other.numbers.length));
             pedalDown = other.pedalDown;
             notes = other.notes;
         }
